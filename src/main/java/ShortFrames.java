@@ -811,7 +811,7 @@ public final class ShortFrames {
                 return false;
             }
             portsForm = form;
-            packet.addNumber(portsOf(in, form), 4);
+            packet.addNumber(portsOf(form, in.number(at, bytes)), 4);
             packet.addNumber(0, 2);
             packet.addNumber(in.number(at + bytes, 2), 2);
             at += bytes + 2;
@@ -819,13 +819,12 @@ public final class ShortFrames {
         }
 
         /** Both PORTS, the first in the upper two bytes of four. */
-        private long portsOf(Row in, int form) {
-            int here = in.at(at);
+        private static long portsOf(int form, long told) {
             switch (form) {
-                case 1: return in.number(at, 2) << 16 | 0xf000L | in.at(at + 2);
-                case 2: return (0xf000L | here) << 16 | in.number(at + 1, 2);
-                case 3: return (0xf0b0L | here >> 4) << 16 | 0xf0b0L | here & 15;
-                default: return in.number(at, 4);
+                case 1: return told >> 8 << 16 | 0xf000L | told & 255;
+                case 2: return 0xf000L << 16 | told >> 16 << 16 | told & 65535;
+                case 3: return (0xf0b0L | told >> 4) << 16 | 0xf0b0L | told & 15;
+                default: return told;
             }
         }
 

@@ -448,6 +448,9 @@ final class PromiseTest {
         packet(x, 0, 0, 0, other, 0xff);
         dueSqueezed(x, 0x7a, 0x4a, 59, 5, 0, 0, 0xff);
         x = new Used();
+        packet(x, 0, 0, 0, 0xff03L << 48, 9);
+        dueSqueezed(x, 0x7a, 0x4a, 59, 3, 0, 0, 9);
+        x = new Used();
         packet(x, 0, 0, 0, other, 0xffffff);
         dueSqueezed(x, 0x7a, 0x4a, 59, 5, 0xff, 0xff, 0xff);
         packet(x, 0, 0, 0, many, 0x1000000);
@@ -599,14 +602,12 @@ final class PromiseTest {
     private static void unfoldPorts() {
         about = "promise 11, PORTS";
         Used x = new Used();
-        int[][] all = {{240, 1, 2, 3, 4}, {241, 1, 2, 4}, {242, 2, 3, 4}, {243, 0x9e}};
-        int[][] ports = {{1, 2, 3, 4}, {1, 2, 240, 4}, {240, 2, 3, 4}, {240, 0xb9, 240, 0xbe}};
-        for (int p = 0; p < 4; p++) {
-            x.cut(0);
-            x.type(0x7e33, 2);
-            for (int b : all[p]) {
-                x.type(b, 1);
-            }
+        int[][] all = {{240, 1, 2, 3, 4}, {241, 129, 131, 133}, {242, 131, 133, 135}, {243, 0x9e}, {243, 0xe9}};
+        int[][] ports = {{1, 2, 3, 4}, {129, 131, 240, 133}, {240, 131, 133, 135}, {240, 0xb9, 240, 0xbe},
+            {240, 0xbe, 240, 0xb9}};
+        for (int p = 0; p < all.length; p++) {
+            type(x, 0x7e, 0x33);
+            behind(x, all[p]);
             x.type(0x0708090aL, 4);
             due("unfold() of P " + p, x.unfold(), 50);
             for (int i = 0; i < 4; i++) {
@@ -618,7 +619,7 @@ final class PromiseTest {
             due("byte 46", x.out(46), 7);
             due("byte 47", x.out(47), 8);
             due("byte 49", x.out(49), 10);
-            dueTold(x, 0, 0, 3, 0, 3, 3, p, 2 + all[p].length + 2);
+            dueTold(x, 0, 0, 3, 0, 3, 3, all[p][0] - 240, 2 + all[p].length + 2);
         }
     }
 
@@ -908,6 +909,11 @@ final class PromiseTest {
         due("out(0)", x.out(0), 5);
         due("one byte at the end", hearPart(x, 41, 0, 5, 1, 5), 1);
         due("one byte, not at the end", hearPart(x, 41, 0, 4, 1, 5), 0);
+        due("9 bytes meet that one", hearPart(x, 41, 0, 4, 9, 5), 1);
+        dueCounts(x, 2, 2, 49, 1, 3, 23, 0, 1);
+        due("the last place of all", hearPart(x, 600, 0, 74, 8, 5), 1);
+        dueCounts(x, 2, 3, 57, 1, 3, 23, 0, 1);
+        due("once more", hearPart(x, 600, 0, 74, 8, 5), 0);
     }
 
     private static void hearMeeting() {
