@@ -16,8 +16,8 @@ final class Check {
         }
     }
 
-    static int wrong() {
-        return wrong;
+    static int asked() {
+        return asked;
     }
 
     static void end(String test) {
