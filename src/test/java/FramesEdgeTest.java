@@ -310,6 +310,8 @@ final class FramesEdgeTest extends Edges {
                 due("with PORTS, z " + z, y.hear(0), z == 48 ? 2 : 1);
                 dueN(y, z, 6, true);
             }
+            hearFirst(x, 41, 3, 0);
+            dueN(x, 41, 5, false);
             hearFirst(x, 72, 3, 16);
             due("56 bytes", x.count(2), 56);
             due("at place 0", hearPart(x, 72, 3, 7, 16, 7), 2);
@@ -448,6 +450,15 @@ final class FramesEdgeTest extends Edges {
             dueCounts(x, 2, 2, 24, 1, 0, 2, 0, 1);
             due("more bytes", hearPart(x, 64, 1, 3, 24, 1), 1);
             dueCounts(x, 2, 2, 40, 1, 0, 2, 0, 2);
+            x.pass(60);
+            for (int place = 60; place < 75; place++) {
+                hearPart(x, 600, 3, place, 8, 1);
+                due("the same at " + place, hearPart(x, 600, 3, place, 8, 1), 0);
+            }
+            due("one byte at the end", hearPart(x, 593, 3, 74, 1, 1), 1);
+            due("the same", hearPart(x, 593, 3, 74, 1, 1), 0);
+            x.pass(60);
+            hearPart(x, 64, 2, 1, 16, 1);
             hearFirst(x, 64, 3, 8);
             due("the same first FRAME", hearFirst(x, 64, 3, 8), 0);
             due("a further one in its place", hearPart(x, 64, 3, 0, 48, 5), 0);

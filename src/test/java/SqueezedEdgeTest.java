@@ -202,16 +202,22 @@ final class SqueezedEdgeTest extends Edges {
 
     private static void source() {
         edge("SOURCE, SAC 0: SAM 0: its 16 bytes;", x -> {
-            int[] all = rising(16);
-            dueSource(x, 0x0102030405060708L, 0x090a0b0c0d0e0f10L, joined(bytes(0x7a, 0x03, 59), all));
+            packet(x, 0, 0x0102030405060708L, 0x090a0b0c0d0e0f10L, PLAIN, OWN_OF_SHORT_0);
+            dueSqueezed(x, joined(bytes(0x7a, 0x03, 59), rising(16)));
+            dueSource(x, 0x0102030405060708L, 0x090a0b0c0d0e0f10L, joined(bytes(0x7a, 0x03, 59), rising(16)));
             dueSource(x, 0, 0, joined(bytes(0x7a, 0x03, 59), new int[16]));
+            dueSource(x, PLAIN, OWN_OF_SHORT_0, joined(bytes(0x7a, 0x03, 59, 0xfe, 0x80), new int[6],
+                    bytes(0, 0, 0, 255, 254, 0, 0, 0)));
         });
         edge("PLAIN, and SAM 1: its last eight;", x -> {
-            dueSource(x, PLAIN, 0x0102030405060708L, 0x7a, 0x13, 59, 1, 2, 3, 4, 5, 6, 7, 8);
+            packet(x, 0, PLAIN, 0x0102030405060708L, PLAIN, OWN_OF_SHORT_0);
+            dueSqueezed(x, 0x7a, 0x13, 59, 1, 2, 3, 4, 5, 6, 7, 8);
+            dueSource(x, PLAIN, 0, 0x7a, 0x13, 59, 0, 0, 0, 0, 0, 0, 0, 0);
             dueSource(x, PLAIN, -1, 0x7a, 0x13, 59, 255, 255, 255, 255, 255, 255, 255, 255);
         });
         edge("2: its last two, the six ahead of them being 0, 0, 0, 255, 254, 0;", x -> {
-            dueSource(x, PLAIN, 0x000000fffe00fffeL, 0x7a, 0x23, 59, 255, 254);
+            packet(x, 0, PLAIN, 0x000000fffe00fffeL, PLAIN, OWN_OF_SHORT_0);
+            dueSqueezed(x, 0x7a, 0x23, 59, 255, 254);
             dueSourceMode(x, "as told", PLAIN, 0x000000fffe00fffeL, 2);
             for (int bit = 16; bit < 64; bit++) {
                 dueSourceMode(x, "other by bit " + bit, PLAIN, 0x000000fffe00fffeL ^ 1L << bit, 1);
@@ -220,8 +226,8 @@ final class SqueezedEdgeTest extends Edges {
         edge("3: the last eight are THE OWN ones of the sender's LINK.", x -> {
             x.link(0, true, 0x0102030405060708L);
             x.link(1, false, 9);
-            dueSource(x, PLAIN, 0x0302030405060708L, 0x7a, 0x33, 59);
-            dueSourceMode(x, "as told", PLAIN, 0x0302030405060708L, 3);
+            packet(x, 0, PLAIN, 0x0302030405060708L, PLAIN, OWN_OF_SHORT_0 + 9);
+            dueSqueezed(x, 0x7a, 0x33, 59);
             for (int bit = 0; bit < 64; bit++) {
                 dueSourceMode(x, "other by bit " + bit, PLAIN, 0x0302030405060708L ^ 1L << bit, 1);
             }
@@ -242,9 +248,12 @@ final class SqueezedEdgeTest extends Edges {
         edge("1, 2, 3: likewise with the eight bytes of its CONTEXT as the first ones.", x -> {
             x.context(7, true, -1);
             x.link(0, false, 65535);
-            dueSource(x, -1, 0x0102030405060708L, 0x7a, 0xd3, 0x70, 59, 1, 2, 3, 4, 5, 6, 7, 8);
-            dueSource(x, -1, OWN_OF_SHORT_0 + 0x0102, 0x7a, 0xe3, 0x70, 59, 1, 2);
-            dueSource(x, -1, OWN_OF_SHORT_0 + 65535, 0x7a, 0xf3, 0x70, 59);
+            packet(x, 0, -1, 0x0102030405060708L, PLAIN, OWN_OF_SHORT_0);
+            dueSqueezed(x, 0x7a, 0xd3, 0x70, 59, 1, 2, 3, 4, 5, 6, 7, 8);
+            packet(x, 0, -1, OWN_OF_SHORT_0 + 0x0102, PLAIN, OWN_OF_SHORT_0);
+            dueSqueezed(x, 0x7a, 0xe3, 0x70, 59, 1, 2);
+            packet(x, 0, -1, OWN_OF_SHORT_0 + 65535, PLAIN, OWN_OF_SHORT_0);
+            dueSqueezed(x, 0x7a, 0xf3, 0x70, 59);
         });
     }
 
@@ -253,7 +262,8 @@ final class SqueezedEdgeTest extends Edges {
             x.context(7, true, NET);
             x.link(0, false, 9);
             x.link(1, true, 0x0102030405060708L);
-            dueGoal(x, 0x0102030405060708L, 0x090a0b0c0d0e0f10L, joined(bytes(0x7a, 0x30, 59), rising(16)));
+            packet(x, 0, PLAIN, OWN_OF_SHORT_0 + 9, 0x0102030405060708L, 0x090a0b0c0d0e0f10L);
+            dueSqueezed(x, joined(bytes(0x7a, 0x30, 59), rising(16)));
             dueGoal(x, PLAIN, 0x0102030405060708L, 0x7a, 0x31, 59, 1, 2, 3, 4, 5, 6, 7, 8);
             dueGoal(x, PLAIN, OWN_OF_SHORT_0 + 0x0102, 0x7a, 0x32, 59, 1, 2);
             dueGoal(x, PLAIN, 0x0302030405060708L, 0x7a, 0x33, 59);
@@ -277,24 +287,32 @@ final class SqueezedEdgeTest extends Edges {
 
     private static void many() {
         edge("M 1 (its first byte is 255), DAC 0: DAM 0: 16 bytes;", x -> {
-            dueGoal(x, 0xff02030405060708L, 0x090a0b0c0d0e0f10L,
-                    joined(bytes(0x7a, 0x38, 59, 255), Arrays.copyOfRange(rising(16), 1, 16)));
+            packet(x, 0, PLAIN, OWN_OF_SHORT_0, 0xff02030405060708L, 0x090a0b0c0d0e0f10L);
+            dueSqueezed(x, joined(bytes(0x7a, 0x38, 59, 255), Arrays.copyOfRange(rising(16), 1, 16)));
             dueGoalMode(x, "the first byte is 255", 0xff02030405060708L, 0, 8);
             for (int bit = 56; bit < 64; bit++) {
                 dueGoalMode(x, "it is not, by bit " + bit, 0xff02030405060708L ^ 1L << bit, 0, 0);
             }
         });
         edge("1: byte 1 and the last five;", x -> {
-            dueGoal(x, 0xff01L << 48, 0x0203040506L, 0x7a, 0x39, 59, 1, 2, 3, 4, 5, 6);
-            dueGoal(x, 0xffffL << 48, 0xffffffffffL, 0x7a, 0x39, 59, 255, 255, 255, 255, 255, 255);
+            packet(x, 0, PLAIN, OWN_OF_SHORT_0, 0xff01L << 48, 0x0203040506L);
+            dueSqueezed(x, 0x7a, 0x39, 59, 1, 2, 3, 4, 5, 6);
+            packet(x, 0, PLAIN, OWN_OF_SHORT_0, 0xfffeL << 48, 0xffffffffffL);
+            dueSqueezed(x, 0x7a, 0x39, 59, 254, 255, 255, 255, 255, 255);
+            dueGoal(x, 0xff00L << 48, 0, 0x7a, 0x39, 59, 0, 0, 0, 0, 0, 0);
         });
         edge("2: byte 1 and the last three;", x -> {
-            dueGoal(x, 0xff01L << 48, 0x020304L, 0x7a, 0x3a, 59, 1, 2, 3, 4);
-            dueGoal(x, 0xffffL << 48, 0xffffffL, 0x7a, 0x3a, 59, 255, 255, 255, 255);
+            packet(x, 0, PLAIN, OWN_OF_SHORT_0, 0xff01L << 48, 0x020304L);
+            dueSqueezed(x, 0x7a, 0x3a, 59, 1, 2, 3, 4);
+            packet(x, 0, PLAIN, OWN_OF_SHORT_0, 0xfffeL << 48, 0xffffffL);
+            dueSqueezed(x, 0x7a, 0x3a, 59, 254, 255, 255, 255);
+            dueGoal(x, 0xff02L << 48, 0, 0x7a, 0x3a, 59, 2, 0, 0, 0);
         });
         edge("3: the last one, byte 1 being 2;", x -> {
-            dueGoal(x, 0xff02L << 48, 0x01, 0x7a, 0x3b, 59, 1);
-            dueGoal(x, 0xff02L << 48, 0xff, 0x7a, 0x3b, 59, 255);
+            packet(x, 0, PLAIN, OWN_OF_SHORT_0, 0xff02L << 48, 1);
+            dueSqueezed(x, 0x7a, 0x3b, 59, 1);
+            dueGoal(x, 0xff02L << 48, 0, 0x7a, 0x3b, 59, 0);
+            dueGoal(x, 0xff02L << 48, 255, 0x7a, 0x3b, 59, 255);
             for (int one = 0; one < 256; one++) {
                 Used y = new Used();
                 dueGoalMode(y, "byte 1 is " + one, 0xff00L + one << 48, 0xff, one == 2 ? 11 : 10);
@@ -541,6 +559,12 @@ final class SqueezedEdgeTest extends Edges {
             due("its place", y.told(1), 2);
         });
         edge("1 bytes end (the end).", x -> {
+            x.context(0, true, NET);
+            type(x, 0x7a, 0x77, 59);
+            due("by a CONTEXT", x.unfold(), 40);
+            x.context(0, false, NET);
+            dueFault(x, 1, 0);
+            dueFault(x, 1, 1, 0x7a);
             int[][] all = {{0x60, 0x80, 0, 0, 0, 0, 0, 59, 9}, {0x69, 0x11, 1, 2, 3, 59}, {0x72, 0x22, 0, 59},
                 {0x7b, 0x39, 59}, {0x78, 0x3a, 59, 9}, {0x7a, 0x4b, 59}, {0x7a, 0xd3, 0, 59}, {0x74, 0xe6, 0, 0, 9},
                 {0x7e, 0xc3, 0, 240}, {0x7e, 0x33, 241}, {0x7e, 0x33, 242}, {0x7e, 0x33, 243}};
