@@ -488,6 +488,9 @@ final class FramesEdgeTest extends Edges {
             due("by its end, which is z", hearPart(x, 43, 1, 4, 11, 1), 1);
             due("count(7)", x.count(7), 1);
             due("up to it", hearPart(x, 43, 1, 0, 32, 1), 2);
+            hearPart(x, 41, 1, 5, 1, 1);
+            due("by one byte", hearPart(x, 41, 1, 4, 9, 1), 1);
+            due("count(7)", x.count(7), 2);
         });
     }
 
