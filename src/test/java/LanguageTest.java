@@ -36,6 +36,8 @@ final class LanguageTest {
         String open = null;
         int begun = 0;
         int methods = 0;
+        int made = 0;
+        boolean makes = false;
         for (int i = 0; i < lines.length; i++) {
             String line = lines[i];
             String indent = line.substring(0, line.length() - line.stripLeading().length());
@@ -44,11 +46,16 @@ final class LanguageTest {
                 open = indent + "}";
                 begun = i;
                 methods++;
+                makes = line.matches(" *(public )?[A-Z]\\w*\\(.*");
             } else if (line.equals(open)) {
                 isTrue("short: line " + (begun + 1), i - begun <= 60);
                 open = null;
+            } else if (open != null && line.contains("new ") && !line.strip().startsWith("//")) {
+                made++;
+                isTrue("rows are made in constructors alone: line " + (i + 1), makes);
             }
         }
+        isTrue("constructors make rows", made > 5);
         isTrue("methods were found", methods > 80);
     }
 
